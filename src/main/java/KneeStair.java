@@ -425,7 +425,7 @@ public final class KneeStair {
         static final int BORNE = 7;
         static final int VARS = 8;
 
-        // Two wait at each of seven levels of ( ) at most, and one in front of a '<'.
+        // Two wait at each of six levels of ( ), three within the last, one in front of a '<'.
         private static final int MOST_WAITING = 24;
 
         final int[] code = new int[MOST_TOKENS];
@@ -457,6 +457,15 @@ public final class KneeStair {
             }
         }
 
+        boolean looksAt(int someVar) {
+            for (int at = 0; at < length; at++) {
+                if (code[at] == LOOK && value[at] == someVar) {
+                    return true;
+                }
+            }
+            return false;
+        }
+
         void copyFrom(Law other) {
             System.arraycopy(other.code, 0, code, 0, other.length);
             System.arraycopy(other.value, 0, value, 0, other.length);
@@ -471,7 +480,7 @@ public final class KneeStair {
                     if (height >= MOST_WAITING) {
                         return 0;
                     }
-                    waiting[height] = what == PUSH ? value[at] : seen[value[at]];
+                    waiting[height] = what == PUSH ? value[at] : varSeen(value[at]);
                     height++;
                     continue;
                 }
@@ -496,6 +505,10 @@ public final class KneeStair {
             return height > 0 ? waiting[height - 1] : 0;
         }
 
+        private int varSeen(int someVar) {
+            return someVar >= 0 && someVar < VARS ? seen[someVar] : 0;
+        }
+
         private static int reckon(int what, int left, int right) {
             switch (what) {
                 case ADD: return left + right;
@@ -513,8 +526,6 @@ public final class KneeStair {
         int top = 0;
         int oil = 0;
         int pilgrims = 0;
-        /** A NAME as a number, its letters being digits 1 .. 26. */
-        final long[] name = new long[MOST_PILGRIMS];
         final int[] step = new int[MOST_PILGRIMS];
         final int[] knees = new int[MOST_PILGRIMS];
         final int[] doubt = new int[MOST_PILGRIMS];
@@ -541,21 +552,11 @@ public final class KneeStair {
             has.put(Law.LOOK, Law.STEP);
         }
 
-        boolean isNamed(long someName) {
-            for (int p = 0; p < pilgrims; p++) {
-                if (name[p] == someName) {
-                    return true;
-                }
-            }
-            return false;
-        }
-
         void copyFrom(Text other) {
             top = other.top;
             oil = other.oil;
             pilgrims = other.pilgrims;
             for (int p = 0; p < pilgrims; p++) {
-                name[p] = other.name[p];
                 step[p] = other.step[p];
                 knees[p] = other.knees[p];
                 doubt[p] = other.doubt[p];
@@ -596,7 +597,7 @@ public final class KneeStair {
 
         final int[] kind = new int[MOST_TOKENS + 1];
         final int[] place = new int[MOST_TOKENS + 1];
-        /** An INT's number; a NAME as a number. */
+        /** An INT's number; a NAME as a number, its letters being digits 1 .. 26. */
         final long[] value = new long[MOST_TOKENS + 1];
 
         void scan(byte[] bytes, int length) {
@@ -715,6 +716,7 @@ public final class KneeStair {
         /** The byte of the FAULT, or NONE. */
         int place = NONE;
         private final Tokens tokens = new Tokens();
+        private final long[] names = new long[MOST_PILGRIMS];
         private int at = 0;
         private int fault = 0;
         private int lateFault = 0;
@@ -825,7 +827,7 @@ public final class KneeStair {
                 return;
             }
             take();
-            draft.name[p] = wantName();
+            names[p] = wantName();
             draft.step[p] = wantNumber(0, MOST_STEP);
             draft.knees[p] = wantNumber(0, MOST_KNEES);
             draft.doubt[p] = wantNumber(0, MOST_DOUBT);
@@ -844,11 +846,20 @@ public final class KneeStair {
                 return 0;
             }
             long name = tokens.value[at];
-            if (draft.isNamed(name)) {
+            if (isNameTold(name)) {
                 failLate(TWICE);
             }
             take();
             return name;
+        }
+
+        private boolean isNameTold(long name) {
+            for (int p = 0; p < draft.pilgrims; p++) {
+                if (names[p] == name) {
+                    return true;
+                }
+            }
+            return false;
         }
 
         private void readLaw(Law law) {
@@ -1208,7 +1219,9 @@ public final class KneeStair {
         }
 
         int leastOil(int p, int n) {
-            for (int more = 0; more <= MOST_MORE; more++) {
+            // Where MOVES does not look at it, no more of it changes anything.
+            int most = text.moves.looksAt(Law.OILED) ? MOST_MORE : 0;
+            for (int more = 0; more <= most; more++) {
                 if (arrivalBehind(p, more, 0, n) != NEVER) {
                     return more;
                 }
@@ -1217,7 +1230,8 @@ public final class KneeStair {
         }
 
         int greatestDoubt(int p, int n) {
-            for (int more = MOST_MORE; more >= 0; more--) {
+            int least = text.moves.looksAt(Law.DOUBT) ? 0 : MOST_MORE;
+            for (int more = MOST_MORE; more >= least; more--) {
                 if (arrivalBehind(p, 0, more, n) != NEVER) {
                     return more;
                 }
@@ -1337,7 +1351,7 @@ public final class KneeStair {
             int may = now.whoMayKneel();
             int goal = now.howManyArrived() + k;
             int best = NONE;
-            for (int bits = 0; bits < SETS; bits++) {
+            for (int bits = 0; bits < SETS && goal <= text.pilgrims; bits++) {
                 boolean isAsked = (bits & ~may) == 0 && (best == NONE || isCheaper(bits, best));
                 if (isAsked) {
                     tryKneelers(bits, n);

@@ -139,6 +139,20 @@ public final class PromisesTest {
     }
 
     private static void room() {
+        check.about("promises 4, 5, what has gone from the tape");
+        KneeStair x = new KneeStair();
+        Check.feed(x, Check.bytes("stair 1234567890;   "));
+        x.back(10);
+        due("read", x.read(), 1);
+        due("place", x.place(), 10);
+        Check.feed(x, Check.bytes("pilgrim abcdefghi 11"));
+        x.back(4);
+        due("read", x.read(), 1);
+        due("place", x.place(), 16);
+        Check.feed(x, Check.bytes("stair 12;           "));
+        x.back(11);
+        due("read", x.read(), 0);
+        due("top", x.count(1), 12);
         check.about("promises 4, 5, ROOM");
         String oils132 = "oil 1;".repeat(132);
         fault(0, oils132 + "has=1;");
@@ -243,6 +257,9 @@ public final class PromisesTest {
         due("order", has("2 + 3 * 4 - 10 / 3"), 11);
         due("to the left", has("10 - 3 - 2"), 5);
         due("to the left", has("100 / 10 / 5 * 3"), 6);
+        due("much that waits", has("1+2*(1+2*(1+2*(1+2*(1+2*(1+2*(1+2*3))))))"), 511);
+        due("much that waits", has("if 1 < 1+2*(1+2*(1+2*(1+2*(1+2*(1+2*(1+2*3)))))) then 8 else 9"), 8);
+        due("the longest", Check.told("pilgrim a 1 1 1 1 1; has=" + "1+".repeat(193) + "1;").pilgrim(0, 5), 194);
         due("( )", has("(2 + 3) * (4 - 1)"), 15);
         due("rounded towards 0", has("(0 - 7) / 2"), -3);
         due("rounded towards 0", has("7 / (0 - 2)"), -3);
