@@ -61,6 +61,14 @@ final class Check {
         return stair;
     }
 
+    /** A text has a FAULT at the place of a mark, or else at its end; or has none (number 0). */
+    void dueFault(int number, String marked) {
+        int mark = marked.indexOf('@');
+        String text = marked.replace("@", "");
+        int place = mark < 0 ? text.length() : mark;
+        due("fault of " + text, fault(text), number == 0 ? KneeStair.NONE : 10000 * number + place);
+    }
+
     /** A text's FAULT and its place, as one number: 10000 * the FAULT + the place. */
     static int fault(String text) {
         KneeStair stair = new KneeStair();

@@ -82,12 +82,8 @@ public final class PromisesTest {
         due("back(2000)", x.back(2000), 0);
     }
 
-    /** A text with a FAULT at the place of a mark, or at its end. */
     private static void fault(int number, String text) {
-        int mark = text.indexOf('@');
-        String clean = text.replace("@", "");
-        int place = mark < 0 ? clean.length() : mark;
-        due("fault of " + clean, Check.fault(clean), number == 0 ? -1 : 10000 * number + place);
+        check.dueFault(number, text);
     }
 
     private static void syntax() {
