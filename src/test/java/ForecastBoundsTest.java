@@ -90,6 +90,9 @@ public final class ForecastBoundsTest {
         due("now", x.arrives(0), 0);
         x.board(0);
         due("boarded again", x.arrives(0), 1);
+        due("just by the OIL there is", told("stair 3; pilgrim a 0 0 0 1 0; oil 2; moves = oiled;").arrives(0), 2);
+        due("not by the OIL there is", told("stair 4; pilgrim a 0 0 0 1 0; oil 2; moves = oiled;").arrives(0), -2);
+        due("just by the DOUBT there is", told("stair 9; pilgrim a 0 0 3 1 0; moves = 6 - doubt;").arrives(0), 3);
         for (int p : NO_PILGRIMS) {
             refused("arrives(" + p + ")", y -> y.arrives(p), -1);
         }
@@ -107,6 +110,16 @@ public final class ForecastBoundsTest {
         due("for the first time", told("moves = minute - 5;").still(), 5);
         due("0 by a division", told("moves = 7 / (minute - 3);").still(), 3);
         due("not", told("moves = 1;").still(), -2);
+        KneeStair x = told("stair 99; pilgrim a 0 2 0 5 0 kneels; moves = if minute < 1 then 0 else knees;");
+        due("now", x.still(), 0);
+        x.run(1);
+        due("till he rises", x.still(), 4);
+        x.run(3);
+        due("till he rises", x.still(), 1);
+        x.lowest(300);
+        due("till he rises, behind another question", x.still(), 1);
+        x.rise(0);
+        due("he rose", x.still(), 0);
         due("of none", new KneeStair().still(), 0);
     }
 
@@ -156,6 +169,8 @@ public final class ForecastBoundsTest {
         due("all have ARRIVED", x.first(1), -2);
         due("of none", new KneeStair().first(0), -2);
         due("of none", new KneeStair().first(1), -2);
+        due("the last of eight", told("stair 9;" + eight("0 1 0 9 0").replace("pilgrim h 0", "pilgrim h 8") + "moves = 1;").first(0), 7);
+        due("none of eight", told("stair 9;" + eight("0 1 0 9 0") + "moves = 0;").first(0), -2);
         for (int what : NO_WHATS) {
             refused("first(" + what + ")", y -> y.first(what), -1);
             traces.refused("first(" + what + ") of none", Traces::idle, y -> y.first(what), -1);
@@ -205,6 +220,7 @@ public final class ForecastBoundsTest {
         due("n 1 of 2", told("stair 2; pilgrim a 0 0 0 1 0; moves = if oiled < 1 then 0 else 1;").oiled(0, 1), -2);
         due("n 2 of 2", told("stair 2; pilgrim a 0 0 0 1 0; moves = if oiled < 1 then 0 else 1;").oiled(0, 2), 2);
         due("who has ARRIVED", told("stair 2; pilgrim a 2 0 0 1 0; moves = 0;").oiled(0, 1), 0);
+        due("with the DOUBT there is", told("stair 1; pilgrim a 0 0 3 1 0; moves = oiled - doubt;").oiled(0, 1), 4);
         due("the least, though more is too much", one("1 - (oiled - 4) * (oiled - 4)").oiled(0, 1), 4);
         for (int n : NO_SPANS) {
             refused("oiled(0, " + n + ")", y -> y.oiled(0, n), -1);
@@ -233,6 +249,7 @@ public final class ForecastBoundsTest {
         due("n 300, looked at", one("if minute < 299 then 0 else 9 - doubt").doubted(0, 300), 8);
         due("n 299, looked at", one("if minute < 299 then 0 else 9 - doubt").doubted(0, 299), -2);
         due("who has ARRIVED", told("stair 2; pilgrim a 2 0 0 1 0;").doubted(0, 1), 300);
+        due("with the OIL there is", told("stair 1; pilgrim a 0 0 3 1 0; oil 7; moves = oiled - doubt;").doubted(0, 1), 3);
         due("the greatest, though less is too little", one("1 - (doubt - 4) * (doubt - 4)").doubted(0, 1), 4);
         for (int n : NO_SPANS) {
             refused("doubted(0, " + n + ")", y -> y.doubted(0, n), -1);
@@ -256,6 +273,10 @@ public final class ForecastBoundsTest {
         due("the least that is soon enough", told(String.format(late, 99, 299)).bestStart(0, 300, 0), 201);
         due("all alike", told("stair 9; pilgrim a 3 0 0 9 0; moves = 0 - 1;").bestStart(0, 300, 0), 0);
         due("all alike, the STEP", told("stair 9; pilgrim a 3 0 0 9 0; moves = 0 - 1;").bestStart(0, 300, 1), 0);
+        KneeStair down = told("stair 99; pilgrim a 50 1 0 9 0; moves = 1 - knees * 2;");
+        due("he is to kneel: n - 1", down.bestStart(0, 3, 0), 2);
+        due("he is to kneel: the STEP", down.bestStart(0, 3, 1), 51);
+        due("he is to kneel: n 1", down.bestStart(0, 1, 1), 49);
         check.about("21: standing till then, if he may by then (else he goes on to stand)");
         KneeStair sore = behind(1, told("stair 99; pilgrim a 0 3 0 1 0 kneels; moves = knees - on;"));
         due("too SORE now: n 1", sore.bestStart(0, 1, 1), 2 - 1);
@@ -309,6 +330,8 @@ public final class ForecastBoundsTest {
         due("n 0", late.lowest(0), 5);
         due("n 299", late.lowest(299), 5);
         due("n 300", late.lowest(300), 4);
+        due("the last of eight", told("stair 9;" + eight("5 1 0 9 0").replace("pilgrim h 5", "pilgrim h 4") + "moves = 0;").lowest(0), 4);
+        due("eight have ARRIVED", told("stair 5;" + eight("5 1 0 9 0")).lowest(300), -2);
         due("0 is a STEP, too", told("pilgrim a 0 0 0 1 0;").lowest(0), 0);
         KneeStair up = told("stair 9; pilgrim a 8 0 0 1 0; moves = 1;");
         due("till he has ARRIVED", up.lowest(300), 8);
@@ -396,6 +419,14 @@ public final class ForecastBoundsTest {
         many.kneel(3);
         due("as great is no greater", many.exchange(1, 1, 1), 52);
         due("who rises is the third, who kneels the fifth", many.exchange(1, 1, 0), 24);
+        KneeStair back = told("stair 99; pilgrim a 5 4 0 9 0; pilgrim b 5 2 0 9 0 kneels; moves = knees;");
+        due("who kneels is the first", back.exchange(1, 1, 0), 10);
+        KneeStair full = told("stair 99;" + eight("5 1 0 9 0").replace("pilgrim h 5 1", "pilgrim h 5 4") + "moves = knees;");
+        full.kneel(6);
+        due("the last of eight", full.exchange(0, 1, 0), 67);
+        full.kneel(7);
+        full.rise(6);
+        due("none of eight", full.exchange(0, 1, 0), -2);
         check.about("26: -2: by none");
         KneeStair equal = told("stair 99; pilgrim a 5 2 0 9 0 kneels; pilgrim b 5 2 0 9 0; moves = knees;");
         due("as great", equal.exchange(0, 1, 0), -2);

@@ -310,7 +310,7 @@ public final class StairBoundsTest {
         for (int p = 0; p < 8; p++) {
             text.append("pilgrim ").append((char) ('a' + p)).append(" ").append(p).append(" 1 1 9 ").append(p + 1).append(";");
         }
-        return Check.told(text.toString());
+        return Check.told(text.append("moves = knees;").toString());
     }
 
     private static void movesOfNone() {
@@ -494,6 +494,11 @@ public final class StairBoundsTest {
         }
         due("of none", new KneeStair().most(0), -2);
         due("of none", new KneeStair().most(1), -2);
+        KneeStair full = eight();
+        full.kneel(7);
+        full.run(1);
+        due("the last of eight", full.most(0), 7);
+        due("eight, nothing borne", eight().most(0), 0);
         due("the last one", behind(1, "stair 99; pilgrim a 0 1 0 9 0 kneels; pilgrim b 0 1 0 9 0; pilgrim c 0 2 0 9 0 kneels; moves = 1;").most(0), 2);
     }
 
@@ -533,6 +538,11 @@ public final class StairBoundsTest {
             traces.refused("share(" + p + ", true)", Traces::busy, y -> y.share(p, true), -1);
         }
         due("of none", new KneeStair().share(0, true), -1);
+        KneeStair full = behind(1, "stair 9; pilgrim a 0 1 0 9 0 kneels; pilgrim b 0 1 0 9 0 kneels; pilgrim c 0 1 0 9 0 kneels; pilgrim d 0 1 0 9 0 kneels;"
+                + "pilgrim e 0 1 0 9 0 kneels; pilgrim f 0 1 0 9 0 kneels; pilgrim g 0 1 0 9 0 kneels; pilgrim h 0 3 0 9 0 kneels; moves = 1;");
+        due("the first of eight, above", full.share(0, false), 1);
+        due("the first of eight, below", full.share(0, true), 10);
+        due("the last of eight, above", full.share(7, false), 3);
         KneeStair prime = Check.told("stair 99; pilgrim a 0 3 0 99 0 kneels; pilgrim b 0 4 0 99 0 kneels; moves = 1;");
         prime.run(1);
         prime.rise(0);

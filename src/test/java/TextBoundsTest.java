@@ -333,8 +333,8 @@ public final class TextBoundsTest {
 
     private static void lawsAndOilTold() {
         check.about("MOVES (knees - doubt, if not told), HAS (step, if not told), the last one");
-        KneeStair x = Check.told("pilgrim a 7 4 1 9 9 kneels; pilgrim b 3 1 2 9 9;");
-        due("moves", x.moves(), 2);
+        KneeStair x = Check.told("pilgrim a 7 4 1 9 9 kneels; pilgrim b 3 1 3 9 9;");
+        due("moves", x.moves(), 1);
         due("has", x.pilgrim(0, 5), 7);
         x = Check.told("pilgrim a 7 4 1 9 9 kneels; moves = 1; has = 2; moves = 3; has = 4;");
         due("moves", x.moves(), 3);
@@ -344,6 +344,18 @@ public final class TextBoundsTest {
         y.read();
         due("moves, not told again", y.moves(), 0);
         due("has, not told again", y.pilgrim(0, 5), 0);
+        String ifs = "if 0 < 1 then 5 else if 0 < 1 then 6 else if 0 < 1 then 7 else if 0 < 1 then 8 else 9";
+        x = Check.told(pilgrim("a") + "moves = " + ifs + "; moves = 1; has = " + ifs + "; has = 2;");
+        due("moves, behind one of ifs", x.moves(), 1);
+        due("has, behind one of ifs", x.pilgrim(0, 5), 2);
+        Check.feed(x, Check.bytes(pilgrim("a") + "moves = " + ifs + "; has = " + ifs + ";"));
+        x.read();
+        due("moves, of ifs", x.moves(), 5);
+        due("has, of ifs", x.pilgrim(0, 5), 5);
+        Check.feed(x, Check.bytes("pilgrim a 3 0 8 1 0;"));
+        x.read();
+        due("moves, not told behind ifs", x.moves(), -8);
+        due("has, not told behind ifs", x.pilgrim(0, 5), 3);
         check.about("OIL 0 .. 99 (0; the last one)");
         due("0", Check.told("oil 5; oil 0;").count(5), 0);
         due("99", Check.told("oil 5; oil 99;").count(5), 99);
