@@ -1,3 +1,5 @@
+import java.util.ArrayList;
+import java.util.List;
 import java.util.function.Function;
 
 /** Part III of the terms and promises 14 to 22, 24 to 26, 30, 31, each sentence that names a bound. */
@@ -22,6 +24,7 @@ public final class ForecastBoundsTest {
 
     public static void main(String[] args) {
         nothingHappens();
+        oneBehindAnother();
         arrives();
         still();
         highest();
@@ -73,6 +76,26 @@ public final class ForecastBoundsTest {
         traces.nothingHappens("bestTwo", Traces::busy, x -> x.bestTwo(300, 0));
         traces.nothingHappens("kneelers", Traces::busy, x -> x.kneelers(1, 300, 0));
         traces.nothingHappens("rests", Traces::busy, x -> x.rests(100, -1));
+    }
+
+    /** What one question tries out is no more there when the next one is asked. */
+    private static void oneBehindAnother() {
+        check.about("III: the same answers behind other questions");
+        List<Function<KneeStair, Object>> questions = List.of(x -> x.arrives(1), x -> x.still(), x -> x.highest(0, 3), x -> x.first(1),
+                x -> x.means(1, 0, 2), x -> x.oiled(0, 2), x -> x.doubted(2, 4), x -> x.bestStart(1, 4, 1), x -> x.meet(0, 1), x -> x.lowest(3));
+        List<Function<KneeStair, Object>> more = List.of(x -> x.bestTwo(3, 0), x -> x.exchange(0, 3, 1), x -> x.kneelers(1, 9, 1), x -> x.rests(3, -1),
+                x -> x.secret(2, -1), x -> x.off(2), x -> x.moves(), x -> x.pilgrim(0, 5));
+        List<Function<KneeStair, Object>> all = new ArrayList<>(questions);
+        all.addAll(more);
+        for (int i = 0; i < all.size(); i++) {
+            for (int j = 0; j < all.size(); j++) {
+                KneeStair x = Traces.busy();
+                all.get(i).apply(x);
+                Object alone = all.get(j).apply(Traces.busy());
+                Object behind = all.get(j).apply(x);
+                check.due("question " + j + " behind question " + i + ": " + behind + ", alone: " + alone, behind.equals(alone), true);
+            }
+        }
     }
 
     private static void arrives() {

@@ -425,7 +425,11 @@ public final class TextBoundsTest {
         fault(2, "has = ((((((@(1)))))));");
         fault(2, "has = ((((((1 + @(1)))))));");
         fault(2, "has = ((((((1) * (@(1)))))));");
-        fault(2, "has = if 1 < ((((((@( then");
+        fault(2, "has = if ((((((@(1))))))) < 2 then 3 else 4;");
+        fault(2, "has = if 1 < ((((((@(2))))))) then 3 else 4;");
+        fault(2, "has = if 1 < 2 then ((((((@(3))))))) else 4;");
+        fault(2, "has = if 1 < 2 then 3 else ((((((@(4)))))));");
+        fault(2, "has = if 1 < 2 then 3 else if 1 < ((((((@(");
         fault(2, "has = ((((((@(");
         fault(1, "has = ((((((1 @(");
         fault(0, "has = (1)+(1)+(1)+(1)+(1)+(1)+(1)+(1)+(1);");
