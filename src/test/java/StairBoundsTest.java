@@ -206,6 +206,9 @@ public final class StairBoundsTest {
             }
             due("ifs " + holds, has(String.format(four, each)), holds == 0 ? 5 : Integer.numberOfTrailingZeros(holds) + 1);
         }
+        String deep = "1+2*(1+2*(1+2*(1+2*(1+2*(1+2*(1+2*3))))))";
+        due("the deepest, behind four ifs that do not hold", has(("if 999 < " + deep + " then 1 else ").repeat(4) + deep), 511);
+        due("the deepest of the fourth if", has(("if 999 < " + deep + " then 1 else ").repeat(3) + "if 5 < " + deep + " then " + deep + " else 1"), 511);
     }
 
     private static void wraps() {
