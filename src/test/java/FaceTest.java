@@ -1,9 +1,12 @@
 import java.io.IOException;
+import java.lang.reflect.Field;
 import java.lang.reflect.Member;
 import java.lang.reflect.Method;
 import java.lang.reflect.Modifier;
 import java.nio.file.Files;
 import java.nio.file.Path;
+import java.util.ArrayList;
+import java.util.List;
 import java.util.TreeSet;
 import java.util.regex.Matcher;
 import java.util.regex.Pattern;
@@ -39,6 +42,7 @@ public final class FaceTest {
         check.due("constructors", KneeStair.class.getConstructors().length, 1);
         check.due("final", Modifier.isFinal(KneeStair.class.getModifiers()), true);
         noNameTwice(check);
+        smallEnough(check);
         source(check);
         check.end();
     }
@@ -58,6 +62,43 @@ public final class FaceTest {
                 check.due(inside.getName() + "." + m.getName() + " bears a public name", names.contains(m.getName()), false);
             }
         }
+    }
+
+    private static void smallEnough(Check check) throws IOException {
+        check.about("rules 5 and 11");
+        ArrayList<Class<?>> classes = new ArrayList<>(List.of(KneeStair.class.getDeclaredClasses()));
+        classes.add(KneeStair.class);
+        check.due("twelve classes at most", classes.size() <= 12, true);
+        for (Class<?> one : classes) {
+            int fields = 0;
+            for (Field field : one.getDeclaredFields()) {
+                boolean isStatic = Modifier.isStatic(field.getModifiers());
+                check.due(field + " is final, if static", !isStatic || Modifier.isFinal(field.getModifiers()), true);
+                fields += isStatic ? 0 : 1;
+            }
+            check.due(one.getName() + ": twenty fields at most", fields <= 20, true);
+            for (Method m : one.getDeclaredMethods()) {
+                check.due(m + ": seven parameters at most", m.getParameterCount() <= 7, true);
+            }
+        }
+        shortMethods(check);
+    }
+
+    private static void shortMethods(Check check) throws IOException {
+        String end = "";
+        int begun = 0;
+        int line = 0;
+        for (String text : Files.readAllLines(Path.of("src/main/java/KneeStair.java"))) {
+            line++;
+            if (begun == 0 && text.matches(" +\\w.*\\) \\{")) {
+                begun = line;
+                end = text.replaceAll("\\w.*", "}");
+            } else if (begun != 0 && text.equals(end)) {
+                check.due("sixty lines at most, from line " + begun, line - begun <= 60, true);
+                begun = 0;
+            }
+        }
+        check.due("each method ends", begun, 0);
     }
 
     private static void source(Check check) throws IOException {
